@@ -147,11 +147,12 @@ public final class MemberInspection {
             return REFUSED;
         }
         lastTold = 0L;
-        int refusal = ownerRefusal(handles[handle], field);
+        Held owner = handles[handle];
+        int refusal = ownerRefusal(owner, field);
         if (refusal != DONE) {
             return refusal;
         }
-        return answer(fieldOf(handles[handle], field));
+        return answer(fieldOf(owner, field));
     }
 
     public int getAs(int handle, int field, int kind) {
@@ -159,7 +160,8 @@ public final class MemberInspection {
             return REFUSED;
         }
         lastTold = 0L;
-        int refusal = ownerRefusal(handles[handle], field);
+        Held owner = handles[handle];
+        int refusal = ownerRefusal(owner, field);
         if (refusal != DONE) {
             return refusal;
         }
@@ -167,7 +169,8 @@ public final class MemberInspection {
         if (FIELD_WANTS[field] >= KINDS || !widens(FIELD_WANTS[field], kind)) {
             return ARGUMENT;
         }
-        if (fieldOf(handles[handle], field) instanceof Box box) {
+        Held found = fieldOf(owner, field);
+        if (found instanceof Box box) {
             lastTold = box.toldAs(kind);
         }
         return DONE;
@@ -179,17 +182,19 @@ public final class MemberInspection {
             return REFUSED;
         }
         lastTold = 0L;
-        int refusal = ownerRefusal(handles[handle], field);
+        Held owner = handles[handle];
+        Held given = handles[from];
+        int refusal = ownerRefusal(owner, field);
         if (refusal != DONE) {
             return refusal;
         }
         if (field == FIXED) {
             return FINAL;
         }
-        if (!converts(handles[from], FIELD_WANTS[field])) {
+        if (!converts(given, FIELD_WANTS[field])) {
             return ARGUMENT;
         }
-        store(handles[handle], field, handles[from]);
+        store(owner, field, given);
         return DONE;
     }
 
@@ -199,7 +204,8 @@ public final class MemberInspection {
             return REFUSED;
         }
         lastTold = 0L;
-        int refusal = method == TWICE ? DONE : itemRefusal(handles[handle]);
+        Held receiver = handles[handle];
+        int refusal = method == TWICE ? DONE : itemRefusal(receiver);
         if (refusal != DONE) {
             return refusal;
         }
@@ -214,7 +220,7 @@ public final class MemberInspection {
         if (method == TWICE) {
             return answer(boxOfReal(DOUBLE, realOf(first) + realOf(first)));
         }
-        if (handles[handle] instanceof Item item) {
+        if (receiver instanceof Item item) {
             return invokeOn(item, method, first, second);
         }
         return ARGUMENT;

@@ -225,21 +225,31 @@ public final class FieldsTest {
     }
 
     private static void setChangesOneFieldOfOneItem() {
+        int[] froms = {7, 7, 7, 6, TEXT, SPECIAL, 7, 7, 7};
         for (int field = 0; field <= 8; field++) {
             MemberInspection x = laden();
-            x.hold(6, field >= 3 && field <= 5 ? -1 : 7);
-            x.set(SPECIAL, field, 6);
-            int[] due = {22, 0, 0, 0, 0, 0, 7, 100, 5};
+            x.put(6, 8, 4);
+            x.set(SPECIAL, 3, TEXT);
+            x.set(SPECIAL, 4, PLAIN);
+            x.set(SPECIAL, 5, ITEM);
+            x.set(SPECIAL, field, froms[field]);
             for (int other = 0; other <= 8; other++) {
-                x.get(SPECIAL, other);
-                boolean isSet = other == field && FIELD_KINDS[field] >= 0 && field != 6;
-                long set = field == 2 ? 24 : 3;
-                CHECKS.due("field " + other + " after set of " + field, x.value(8),
-                    isSet ? set : due[other]);
+                dueAfterSet(x, field, other);
             }
             x.getAs(ITEM, 0, 4);
             CHECKS.due("whole of the other item", x.last(), 11);
         }
+    }
+
+    private static void dueAfterSet(MemberInspection x, int field, int other) {
+        int[] sortsBefore = {5, 2, 8, 9, 12, 10, 5, 6, 4};
+        int[] valuesBefore = {22, 0, 0, 6, 0, 0, 7, 100, 5};
+        int[] sortsAfter = {5, 2, 8, 9, 9, 11, 5, 6, 4};
+        int[] valuesAfter = {3, 3, 24, 4, 6, 0, 7, 3, 3};
+        x.get(SPECIAL, other);
+        String call = "field " + other + " after set of " + field;
+        CHECKS.due(call + " sort", x.look(8, false), (other == field ? sortsAfter : sortsBefore)[other]);
+        CHECKS.due(call + " value", x.value(8), (other == field ? valuesAfter : valuesBefore)[other]);
     }
 
     private static void gotBoxesDoNotFollowTheField() {
