@@ -2,8 +2,9 @@
 public final class ReflectionTest {
 
     private static final Checks CHECKS = new Checks();
-    private static final int RUNS = 3000;
-    private static final int CALLS = 512;
+    private static final int RUNS = 4000;
+    // A turn makes at most four calls: a run stays within the 512 that are promised.
+    private static final int TURNS = 128;
     private static final long[] VALUES = {
         0, 1, -1, 2, 7, 10, 127, 128, -128, -129, 255, 256, 32767, 32768, 65535, 65536, 16777217,
         Integer.MAX_VALUE, Integer.MIN_VALUE, 1L << 32, (1L << 53) + 1, (1L << 60) + (1L << 36) + 1,
@@ -27,12 +28,10 @@ public final class ReflectionTest {
     }
 
     private void runCalls() throws ReflectiveOperationException {
-        int call = 0;
-        while (call < CALLS - 2) {
+        for (int turn = 0; turn < TURNS; turn++) {
             request();
             CHECKS.due("run " + run + ": last()", program.last(), model.last());
             look();
-            call += 3;
         }
     }
 
