@@ -24,6 +24,7 @@ public final class FaceTest {
     }
 
     private static void constantsHaveTheirValues(Class<?> program) throws ReflectiveOperationException {
+        CHECKS.sentence("Terms", "OUTCOMES: DONE and the refusals NULL, ARGUMENT, FINAL, TARGET, MISSING, ABSTRACT, CAST.");
         for (int i = 0; i < CONSTANTS.length; i++) {
             CHECKS.due(CONSTANTS[i], program.getField(CONSTANTS[i]).getInt(null), i);
         }
@@ -32,6 +33,8 @@ public final class FaceTest {
     }
 
     private static void methodsAreThoseOfTheDocument(Class<?> program) {
+        CHECKS.sentence("LANGUAGE.md, rule 1", "the public constructor, methods and constants of the document "
+            + "and no other public, protected or package-visible member");
         int found = 0;
         for (Method method : program.getDeclaredMethods()) {
             if (Modifier.isPublic(method.getModifiers())) {

@@ -189,7 +189,7 @@ public final class InvokeTest {
         dueResult(x, ITEM, TWICE, 8, 10);
         x.put(2, 2, 65535);
         dueResult(x, ITEM, TWICE, 8, 65535 * 16);
-        for (int i = 0; i < 400; i++) {
+        for (int i = 0; i < 200; i++) {
             x.hold(2, 8);
             x.invoke(0, TWICE, 1, XY);
         }
