@@ -1,3 +1,5 @@
+import java.util.List;
+
 /** The sentences of promises 5 get, 6 getAs and 7 set. */
 public final class FieldSentencesTest extends Sentences {
 
@@ -18,6 +20,7 @@ public final class FieldSentencesTest extends Sentences {
         getAsRefusesObjects();
         getAsRefusesNarrowing();
         setTakesItsNumbers();
+        setChangesTheFieldAlone();
         setLooksAtTheHandleFirst();
         setOfSharedLooksAtNoHandle();
         setRefusesFixedNext();
@@ -198,6 +201,32 @@ public final class FieldSentencesTest extends Sentences {
         CHECKS.due("set(1, 8, 7)", full().set(A_SPECIAL, EXTRA, A_BYTE), DONE);
         CHECKS.due("set(8, 7, 8)", full().set(RESULT, SHARED, RESULT), DONE);
         CHECKS.due("set(0, 4, 0)", full().set(AN_ITEM, ANY, AN_ITEM), DONE);
+    }
+
+    private static void setChangesTheFieldAlone() {
+        CHECKS.sentence("Promise 7", "Sets a FIELD 0 .. 8 to what the handle 'from', 0 .. 8, holds.");
+        int[] fields = {WHOLE, SMALL, REAL, TEXT, ANY, NEXT, SHARED, EXTRA};
+        int[] froms = {RESULT, A_BYTE, RESULT, NOTHING, NOTHING, NOTHING, A_BYTE, A_BYTE};
+        for (int i = 0; i < fields.length; i++) {
+            for (int handle = fields[i] == EXTRA ? A_SPECIAL : AN_ITEM; handle <= A_SPECIAL; handle++) {
+                dueAlone(handle, fields[i], froms[i]);
+            }
+        }
+    }
+
+    private static void dueAlone(int handle, int field, int from) {
+        MemberInspection x = full();
+        String call = "set(" + handle + ", " + field + ", " + from + ")";
+        CHECKS.due(call, x.set(handle, field, from), DONE);
+        List<String> got = factsOf(x);
+        List<String> want = fullFactsWithLast(0);
+        for (int owner = AN_ITEM; owner <= A_SPECIAL; owner++) {
+            if (owner == handle || field == SHARED) {
+                int place = placeOfField(owner, field);
+                want.set(place, got.get(place));
+            }
+        }
+        CHECKS.due(call, got, want);
     }
 
     private static void setLooksAtTheHandleFirst() {

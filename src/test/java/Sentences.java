@@ -112,11 +112,18 @@ abstract class Sentences {
         }
         for (int handle = AN_ITEM; handle <= A_SPECIAL; handle++) {
             for (int field = WHOLE; field <= EXTRA; field++) {
-                int outcome = x.get(handle, field);
-                facts.add("field " + field + " of " + handle + ": " + outcome + ", " + objectIn(x, RESULT));
+                // After a refusal RESULT would tell of the field before.
+                boolean isThere = x.get(handle, field) == DONE;
+                String told = isThere ? objectIn(x, RESULT) : "refused";
+                facts.add("field " + field + " of " + handle + ": " + told);
             }
         }
         return facts;
+    }
+
+    /** Where factsOf tells the field: behind LAST and the handles. */
+    static int placeOfField(int handle, int field) {
+        return 2 + RESULT + handle * (EXTRA + 1) + field;
     }
 
     private static String objectIn(MemberInspection x, int handle) {
