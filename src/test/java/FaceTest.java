@@ -20,6 +20,7 @@ public final class FaceTest {
         constantsHaveTheirValues(program);
         methodsAreThoseOfTheDocument(program);
         nothingElseIsOpen(program);
+        classesInsideAreClosed(program);
         CHECKS.end();
     }
 
@@ -69,6 +70,16 @@ public final class FaceTest {
             dueClosed(field);
             boolean isOpenState = Modifier.isStatic(field.getModifiers()) && !Modifier.isFinal(field.getModifiers());
             CHECKS.due("static state " + field.getName(), isOpenState ? 1 : 0, 0);
+        }
+    }
+
+    private static void classesInsideAreClosed(Class<?> program) {
+        CHECKS.sentence("LANGUAGE.md, rule 1", "the classes inside it, which are private or package-visible and static.");
+        for (Class<?> inside : program.getDeclaredClasses()) {
+            int modifiers = inside.getModifiers();
+            boolean isOpen = Modifier.isPublic(modifiers) || Modifier.isProtected(modifiers);
+            CHECKS.due(inside.getName() + " is open", isOpen ? 1 : 0, 0);
+            CHECKS.due(inside.getName() + " is static", Modifier.isStatic(modifiers) ? 1 : 0, 1);
         }
     }
 

@@ -41,9 +41,13 @@ public final class ReflectionTest {
         return (int) ((state >>> 33) % bound);
     }
 
-    /** A number of least .. most, now and then one just beyond. */
+    /** A number of least .. most, now and then one just beyond or far beyond. */
     private int number(int least, int most) {
-        return pick(60) == 0 ? (pick(2) == 0 ? least - 1 : most + 1) : least + pick(most - least + 1);
+        if (pick(60) != 0) {
+            return least + pick(most - least + 1);
+        }
+        int[] beyond = {least - 1, most + 1, Integer.MIN_VALUE, Integer.MAX_VALUE};
+        return beyond[pick(beyond.length)];
     }
 
     private long anyValue() {

@@ -12,6 +12,8 @@ public final class StateSentencesTest extends Sentences {
 
     public static void main(String[] args) {
         fiveHundredAndTwelveCalls();
+        objectsAreOfFiveSorts();
+        boxesHaveAKindAndAValue();
         textsHaveOneDigit();
         specialIsAlsoAnItem();
         specialPassesForAnItem();
@@ -55,6 +57,33 @@ public final class StateSentencesTest extends Sentences {
         for (int i = 1; i <= 256; i++) {
             CHECKS.due("call " + (2 * i - 1) + ": make", y.make(ITEM_CLASS, true, i), DONE);
             CHECKS.due("call " + 2 * i + ": look", y.look(RESULT, true), -2);
+        }
+    }
+
+    private static void objectsAreOfFiveSorts() {
+        CHECKS.sentence("Terms", "OBJECTS: a BOX of a kind with a value; a TEXT with a number 0 .. 9; an ITEM; a SPECIAL, "
+            + "which is also an ITEM; a PLAIN object.");
+        MemberInspection x = full();
+        dueIn("a BOX", x, A_BYTE, BYTE + 1, 3);
+        dueIn("a TEXT", x, A_TEXT, 9, 6);
+        dueIn("an ITEM", x, AN_ITEM, 10, 0);
+        dueIn("a SPECIAL", x, A_SPECIAL, 11, 0);
+        dueIn("a PLAIN object", x, A_PLAIN, 12, 0);
+        for (int handle : new int[] {A_BYTE, A_TEXT, A_PLAIN}) {
+            CHECKS.due("get(" + handle + ", 6) of no ITEM", x.get(handle, FIXED), ARGUMENT);
+        }
+        CHECKS.due("get(0, 6) of an ITEM", x.get(AN_ITEM, FIXED), DONE);
+        CHECKS.due("get(1, 6) of a SPECIAL", x.get(A_SPECIAL, FIXED), DONE);
+    }
+
+    private static void boxesHaveAKindAndAValue() {
+        CHECKS.sentence("Terms", "OBJECTS: a BOX of a kind with a value;");
+        MemberInspection x = new MemberInspection();
+        for (int kind = BOOLEAN; kind <= DOUBLE; kind++) {
+            x.put(kind, kind, kind % 2);
+        }
+        for (int kind = BOOLEAN; kind <= DOUBLE; kind++) {
+            dueIn("a BOX of kind " + kind, x, kind, kind + 1, kind % 2);
         }
     }
 

@@ -11,6 +11,7 @@ public final class TypeSentencesTest extends Sentences {
         madeObjects();
         madeItemsHaveTheirWhole();
         madeSpecialsWrap();
+        madeObjectsAreNew();
         castTakesItsNumbers();
         castOfInt();
         castOfNumbers();
@@ -125,6 +126,44 @@ public final class TypeSentencesTest extends Sentences {
             dueField(call, made(SPECIAL_CLASS, true, pairs[i]), RESULT, WHOLE, INT + 1, pairs[i + 1]);
             dueField(call, made(SPECIAL_CLASS, true, pairs[i]), RESULT, EXTRA, SHORT + 1, 5);
             dueIn(call, made(SPECIAL_CLASS, true, pairs[i]), RESULT, 11, 0);
+        }
+    }
+
+    private static void madeObjectsAreNew() {
+        CHECKS.sentence("Promise 4", "Else RESULT is the new object:");
+        for (int type : new int[] {ROOT_CLASS, ITEM_CLASS, SPECIAL_CLASS}) {
+            MemberInspection x = new MemberInspection();
+            for (int handle = 0; handle <= 7; handle++) {
+                x.make(type, type != ROOT_CLASS, 1);
+                CHECKS.due("look(8, true) of new object " + handle, x.look(RESULT, true), -2);
+                x.hold(handle, RESULT);
+            }
+            for (int handle = 0; handle <= 7; handle++) {
+                CHECKS.due("look(" + handle + ", true) of type " + type, x.look(handle, true), handle);
+            }
+        }
+        dueOwnFields(ITEM_CLASS, 1);
+        dueOwnFields(SPECIAL_CLASS, 2);
+    }
+
+    /** Two objects made alike: what is set in one stays as it was in the other. */
+    private static void dueOwnFields(int type, int whole) {
+        MemberInspection x = new MemberInspection();
+        for (int handle = 0; handle <= 1; handle++) {
+            x.make(type, true, 1);
+            x.hold(handle, RESULT);
+        }
+        x.put(7, BYTE, 99);
+        x.put(6, SORT_TEXT, 4);
+        int[] froms = {7, 7, 7, 6, 6, 0};
+        int[] sorts = {INT + 1, BYTE + 1, DOUBLE + 1, 0, 0, 0};
+        for (int field = WHOLE; field <= NEXT; field++) {
+            CHECKS.due("set(0, " + field + ")", x.set(0, field, froms[field]), DONE);
+            dueField("the other of type " + type, x, 1, field, sorts[field], field == WHOLE ? whole : 0);
+        }
+        if (type == SPECIAL_CLASS) {
+            CHECKS.due("set(0, 8)", x.set(0, EXTRA, 7), DONE);
+            dueField("the other SPECIAL", x, 1, EXTRA, SHORT + 1, 5);
         }
     }
 
